@@ -36,6 +36,14 @@ public final class Promise10OutTest {
         x.event(1, 3, 5, 200);
         check.due("an end is dropped", x.out(1, 5), 1);
         check.due("the item has ended all the same", x.event(1, 3, 0, 200), 0);
+
+        CustomerNotices y = new CustomerNotices();
+        y.customer(0, 0);
+        y.wish(1, 7, 0, 0);
+        y.wish(1, 7, 3, 0);
+        y.event(1, 1, 7, 0);
+        check.due("the first notice of all", y.out(1, 7), 1);
+        check.due("the wishes for the safe and the last channel are gone", y.event(1, 1, 7, 0), 0);
         check.end();
     }
 }

@@ -1,3 +1,5 @@
+import java.lang.reflect.Method;
+import java.util.Arrays;
 import java.util.Random;
 
 /**
@@ -7,13 +9,17 @@ import java.util.Random;
 public final class RandomRunsTest {
     private static final int RUNS = 3000;
     private static final int CALLS = 512;
-    private static final int METHODS = 12;
+    private static final String[] NAMES = {
+        "customer", "wish", "quiet", "event", "promise", "tick", "sent", "works", "out", "failed", "correct", "join",
+    };
+    private static final Method[] OF_CLASS = methodsOf(CustomerNotices.class);
+    private static final Method[] OF_MODEL = methodsOf(PlainModel.class);
     private static final long[] WILD = {
         Long.MIN_VALUE, Integer.MIN_VALUE, -1440, -13, -1, 0, 1, 4, 8, 9, 10, 15, 40, 41, 60, 61, 200, 201, 1439, 1440,
         1441, 9999, 10000, 1000000, 1000001, 1000000000, 1000000001, Integer.MAX_VALUE, 1L << 32, Long.MAX_VALUE,
     };
 
-    public static void main(String[] args) {
+    public static void main(String[] args) throws ReflectiveOperationException {
         Check check = new Check();
         int[] refusals = new int[4];
         for (int run = 0; run < RUNS; run++) {
@@ -25,7 +31,7 @@ public final class RandomRunsTest {
         check.end();
     }
 
-    private static void oneRun(Check check, int run, int[] refusals) {
+    private static void oneRun(Check check, int run, int[] refusals) throws ReflectiveOperationException {
         Random random = new Random(run);
         CustomerNotices all = new CustomerNotices();
         CustomerNotices spared = new CustomerNotices();
@@ -37,14 +43,14 @@ public final class RandomRunsTest {
         for (int k = 0; k < CALLS; k++) {
             int method = k < customers ? 0 : pick(random, ticks);
             long[] a = arguments(random, method, model, items, wild);
-            long want = ask(model, method, a);
-            long got = ask(all, method, a);
-            check.due("run " + run + " call " + k + " method " + method + " " + java.util.Arrays.toString(a), got, want);
-            boolean refused = method != 7 && want <= -11;
-            if (refused) {
+            long want = ask(OF_MODEL, model, method, a);
+            long got = ask(OF_CLASS, all, method, a);
+            String call = "run " + run + " call " + k + ": " + NAMES[method] + Arrays.toString(a);
+            check.due(call, got, want);
+            if (want <= -11) {
                 refusals[(int) (-11 - want)]++;
             } else {
-                check.due("run " + run + " call " + k + ", spared the refused ones", ask(spared, method, a), want);
+                check.due(call + ", spared the refused ones", ask(OF_CLASS, spared, method, a), want);
             }
         }
     }
@@ -57,7 +63,7 @@ public final class RandomRunsTest {
         if (n < 45) return 3;
         if (n < 60) return 4;
         if (n < 60 + ticks) return 5;
-        return 6 + random.nextInt(METHODS - 5);
+        return 6 + random.nextInt(NAMES.length - 6);
     }
 
     private static long[] arguments(Random r, int method, PlainModel m, int items, int wild) {
@@ -87,37 +93,26 @@ public final class RandomRunsTest {
         return a;
     }
 
-    private static long ask(CustomerNotices x, int method, long[] a) {
-        return switch (method) {
-            case 0 -> x.customer((int) a[0], (int) a[1]);
-            case 1 -> x.wish((int) a[0], (int) a[1], (int) a[2], (int) a[3]);
-            case 2 -> x.quiet((int) a[0], (int) a[1], (int) a[2]);
-            case 3 -> x.event((int) a[0], (int) a[1], (int) a[2], a[3]);
-            case 4 -> x.promise((int) a[0], (int) a[1], a[2], a[3]);
-            case 5 -> x.tick(a[0]);
-            case 6 -> x.sent((int) a[0], (int) a[1]);
-            case 7 -> x.works((int) a[0], a[1] > 0) ? 1 : 0;
-            case 8 -> x.out((int) a[0], (int) a[1]);
-            case 9 -> x.failed((int) a[0]);
-            case 10 -> x.correct((int) a[0], a[1]);
-            default -> x.join((int) a[0]);
-        };
+    /** The class and the model have methods of the same names, found once by their place in NAMES. */
+    private static Method[] methodsOf(Class<?> type) {
+        Method[] found = new Method[NAMES.length];
+        for (Method method : type.getDeclaredMethods()) {
+            int place = Arrays.asList(NAMES).indexOf(method.getName());
+            if (place >= 0) {
+                found[place] = method;
+            }
+        }
+        return found;
     }
 
-    private static long ask(PlainModel x, int method, long[] a) {
-        return switch (method) {
-            case 0 -> x.customer((int) a[0], (int) a[1]);
-            case 1 -> x.wish((int) a[0], (int) a[1], (int) a[2], (int) a[3]);
-            case 2 -> x.quiet((int) a[0], (int) a[1], (int) a[2]);
-            case 3 -> x.event((int) a[0], (int) a[1], (int) a[2], a[3]);
-            case 4 -> x.promise((int) a[0], (int) a[1], a[2], a[3]);
-            case 5 -> x.tick(a[0]);
-            case 6 -> x.sent((int) a[0], (int) a[1]);
-            case 7 -> x.works((int) a[0], a[1] > 0) ? 1 : 0;
-            case 8 -> x.out((int) a[0], (int) a[1]);
-            case 9 -> x.failed((int) a[0]);
-            case 10 -> x.correct((int) a[0], a[1]);
-            default -> x.join((int) a[0]);
-        };
+    private static long ask(Method[] methods, Object x, int method, long[] a) throws ReflectiveOperationException {
+        Class<?>[] types = methods[method].getParameterTypes();
+        Object[] given = new Object[types.length];
+        for (int k = 0; k < types.length; k++) {
+            given[k] = types[k] == long.class ? (Object) a[k] : types[k] == int.class ? (Object) (int) a[k]
+                : (Object) (a[k] > 0);
+        }
+        Object answer = methods[method].invoke(x, given);
+        return answer instanceof Boolean yes ? (yes ? 1 : 0) : (Integer) answer;
     }
 }
