@@ -3,11 +3,17 @@ final class Check {
     static final int UNKNOWN = -11, OUTSIDE = -12, STATE = -13, ROOM = -14;
 
     private int wrong = 0;
+    private String sentence = "";
+
+    /** The document's sentence that the checks behind this one are for: it is told with what is not as due. */
+    void says(String sentence) {
+        this.sentence = "'" + sentence + "': ";
+    }
 
     void due(String call, long got, long want) {
         if (got != want) {
             wrong++;
-            System.out.println(call + " answered " + got + ", due is " + want);
+            System.out.println(sentence + call + " answered " + got + ", due is " + want);
         }
     }
 
@@ -41,8 +47,8 @@ final class Check {
 
     /** Events of kind 0 for item 9000 of customer 1 until so many notices are there. */
     static void fillNotices(CustomerNotices x, int upTo, long t) {
-        int last = 0;
-        while (last >= 0 && last < upTo) {
+        int last = x.event(1, 9000, 0, t);
+        while (last > 0 && last < upTo) {
             last = x.event(1, 9000, 0, t);
         }
     }
