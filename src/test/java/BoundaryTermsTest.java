@@ -21,6 +21,7 @@ public final class BoundaryTermsTest {
         noticesAreTwoHundred();
         noticesNeedWishes();
         noticesWaitUntil();
+        endsAreToldToEvent();
         nothingComesBehindAnEnd();
         correctionsComeBehindAnEnd();
         texts();
@@ -278,6 +279,19 @@ public final class BoundaryTermsTest {
         check.due("no failed one waits", x.out(1, 4), 0);
         check.due("one failed", x.failed(0), 2);
         check.due("but one", x.failed(1), -1);
+    }
+
+    private static void endsAreToldToEvent() {
+        check.says("An item has ENDED for a customer behind an end that was told to event()");
+        CustomerNotices x = Check.withWishes(0, 5);
+        check.due("before the end", x.event(1, 1, 0, 0), 1);
+        check.due("the end, with a time to come", x.event(1, 1, 5, 10), 2);
+        check.due("behind it, though its time has not come", x.event(1, 1, 0, 0), 0);
+        check.due("what came before it is sent", x.tick(0), 1);
+        check.due("the end is sent", x.tick(10), 1);
+        check.due("its correction", x.correct(2, 10), 3);
+        check.due("is sent", x.tick(10), 1);
+        check.due("and is no end that was told", x.event(1, 1, 0, 10), 4);
     }
 
     private static void nothingComesBehindAnEnd() {
